@@ -13,6 +13,7 @@ public final class DigitsTest {
         typing();
         throwing();
         zeros();
+        inTurn();
         for (int first = 1; first <= 24; first++) {
             for (int second = 1; second <= 24; second++) {
                 product(first, second, 9, 9);
@@ -77,6 +78,31 @@ public final class DigitsTest {
         }
         CHECK.due("34: zeros ahead do not count", x.multiply(), 1);
         CHECK.due("35: 9", x.product(0), 9);
+    }
+
+    /** One product behind another one, on the same object. */
+    private static void inTurn() {
+        Butterflyworks x = new Butterflyworks();
+        int[][] pairs = {{9, 9}, {2, 3}, {0, 5}, {1, 1}, {8, 7}};
+        for (int[] pair : pairs) {
+            for (int length = 4; length > 0; length--) {
+                x.wipeDigits();
+                int left = 0;
+                int right = 0;
+                for (int i = 0; i < length; i++) {
+                    x.digit(false, pair[0]);
+                    x.digit(true, pair[1]);
+                    left = 10 * left + pair[0];
+                    right = 10 * right + pair[1];
+                }
+                String want = new StringBuilder(Integer.toString(left * right)).reverse().toString();
+                CHECK.due("34: " + left + " times " + right, x.multiply(), want.length());
+                for (int i = 0; i < want.length(); i++) {
+                    CHECK.due("35: " + left + " times " + right + " at " + i, x.product(i), want.charAt(i) - '0');
+                }
+                CHECK.due("36: " + left + " times " + right, x.joined(), length <= 2 ? 1 : 2);
+            }
+        }
     }
 
     private static void product(int first, int second, int firstDigit, int secondStep) {

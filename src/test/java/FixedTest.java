@@ -13,6 +13,7 @@ public final class FixedTest {
         range();
         scales();
         roundings();
+        halvesOfTurns();
         nearTheRealSum();
         places();
         CHECK.end();
@@ -83,6 +84,7 @@ public final class FixedTest {
 
     private static void scales() {
         CHECK.due("29: 8191 is not above", typed(8191, 0, -8191, 0).fixed(), 0);
+        CHECK.due("29: nor is it in an imaginary part", typed(0, 8191, 0, -8191).fixed(), 0);
         CHECK.due("29: 8192 is", typed(8192, 0, 0, 0).fixed(), 1);
         CHECK.due("29: -8192 is", typed(0, 0, 0, -8192).fixed(), 1);
         Butterflyworks x = new Butterflyworks();
@@ -111,6 +113,21 @@ public final class FixedTest {
         CHECK.due("30: a quarter of a turn, imaginary", y.fixedAt(1, true), 7);
         CHECK.due("30: the other side", y.fixedAt(3, false), -5);
         CHECK.due("30: the other side, imaginary", y.fixedAt(3, true), -7);
+    }
+
+    /** An eighth of a turn of 4096 twice is 5792 and a half. */
+    private static void halvesOfTurns() {
+        Butterflyworks x = typed(0, 0, 4096, 4096, 0, 0, 0, 0, 0, 0, 0, 0, 0, 0, 0, 0);
+        x.fixed();
+        CHECK.due("30: a half goes up", x.fixedAt(1, false), 5793);
+        CHECK.due("30: nothing", x.fixedAt(1, true), 0);
+        CHECK.due("30: p less it", x.fixedAt(5, false), -5793);
+        CHECK.due("30: a half below 0 goes up", x.fixedAt(3, true), -5792);
+        CHECK.due("30: p less it, imaginary", x.fixedAt(7, true), 5792);
+        Butterflyworks y = typed(0, 0, -4096, -4096, 0, 0, 0, 0, 0, 0, 0, 0, 0, 0, 0, 0);
+        y.fixed();
+        CHECK.due("30: below 0, real", y.fixedAt(1, false), -5792);
+        CHECK.due("30: below 0, the other side", y.fixedAt(5, false), 5792);
     }
 
     private static void nearTheRealSum() {

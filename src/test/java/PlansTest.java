@@ -23,6 +23,10 @@ public final class PlansTest {
         Butterflyworks x = new Butterflyworks();
         CHECK.due("13: d 2", x.set(2, 'd', 77), 14);
         CHECK.due("13: d 16", x.set(16, 'd', 0), 1008);
+        x.drop(16);
+        CHECK.due("13: b 32 of a missing 16", x.set(32, 'b', 0), 2 * 1008 + 3 * 15 + 32);
+        x.drop(32);
+        x.set(16, 'd', 0);
         CHECK.due("13: b 2", x.set(2, 'b', -1), 2);
         CHECK.due("13: b 4 of b 2", x.set(4, 'b', 0), 11);
         CHECK.due("13: b 8", x.set(8, 'b', 0), 2 * 11 + 3 * 3 + 8);

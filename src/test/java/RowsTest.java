@@ -184,6 +184,16 @@ public final class RowsTest {
             wide.type(1);
         }
         CHECK.due("8: only rows and columns need fit", wide.grid(0, 4), 15);
+        for (int i = 32; i < 64; i++) {
+            wide.type(i);
+        }
+        wide.plain(3, false);
+        long sum = wide.checksum();
+        wide.plain(3, true);
+        wide.grid(3, 64);
+        CHECK.due("8: 64 rows are a plain sum", wide.checksum(), sum);
+        wide.grid(3, 1);
+        CHECK.due("8: so is a row of 64", wide.checksum(), sum);
     }
 
     private static void ring() {

@@ -33,6 +33,11 @@ public final class SearchTest {
         CHECK.due("21: nor are others kept", x.kept(), 5);
         CHECK.due("21: a kept one stays", x.rule(2), 'd');
         CHECK.due("21: figures are proved", x.figure(4, 'c'), 11);
+        CHECK.due("21: 32", x.search(3, 32), 307);
+        CHECK.due("21: 48", x.search(1, 48), 601);
+        CHECK.due("21: 60", x.search(4, 60), 1121);
+        CHECK.due("21: 64", x.search(2, 64), 771);
+        CHECK.due("21: nodes of 64", x.nodes(64), 17);
         x.drop(4);
         x.measure(4, 'd', 0, 0);
         CHECK.due("21: measures do not matter", x.search(0, 4), 11);
@@ -230,7 +235,9 @@ public final class SearchTest {
         CHECK.due("25: 6", x.ways(1, 6), 1L + 4 * 6);
         CHECK.due("25: 16", x.ways(0, 16), 230L);
         CHECK.due("25: 32", x.ways(3, 32), 1654L);
-        CHECK.due("25: 64 is the same wherever it fits", x.ways(3, 64), x.ways(4, 64));
+        CHECK.due("25: 60", x.ways(4, 60), 27118L);
+        CHECK.due("25: 64", x.ways(3, 64), 12786L);
+        CHECK.due("25: 64 is the same wherever it fits", x.ways(4, 64), 12786L);
         CHECK.throwing("25: no ground", ARGUMENT, () -> x.ways(5, 2));
         CHECK.throwing("25: ground first", ARGUMENT, () -> x.ways(-1, 3));
         CHECK.throwing("25: length 0", ARGUMENT, () -> x.ways(0, 0));
