@@ -537,21 +537,17 @@ public final class Butterflyworks {
             probe.add(i);
         }
         for (Ground ground : grounds) {
-            if (isFitting(ground, plan) && !isMadeRightOn(ground, plan)) {
-                return false;
+            if (isFitting(ground, plan)) {
+                transformer.make(ground, plan, probe, false, probeMade);
+                transformer.makePlainly(ground, probe, false, probePlain);
+                boolean isPlainSum = ground.isSameRow(probeMade, probePlain);
+                transformer.make(ground, plan, probeMade, true, probePlain);
+                if (!isPlainSum || !ground.isSameRow(probePlain, probe)) {
+                    return false;
+                }
             }
         }
         return true;
-    }
-
-    private boolean isMadeRightOn(Ground ground, Plan plan) {
-        transformer.make(ground, plan, probe, false, probeMade);
-        transformer.makePlainly(ground, probe, false, probePlain);
-        if (!ground.isSameRow(probeMade, probePlain)) {
-            return false;
-        }
-        transformer.make(ground, plan, probeMade, true, probePlain);
-        return ground.isSameRow(probePlain, probe);
     }
 
     /** The numbers that were seen are the bits of one long, as there are 64 at most. */
