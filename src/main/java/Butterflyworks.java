@@ -1288,7 +1288,6 @@ public final class Butterflyworks {
             int[] here = rows[level];
             int[] aside = asides[level];
             int[] below = rows[level + 1];
-            lift(here, 0, 1, length, below);
             layByPowers(here, generator, length, below);
             turn(ground, plan.first, false, level + 1);
             lift(below, 0, 1, around, aside);

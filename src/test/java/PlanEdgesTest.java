@@ -595,6 +595,35 @@ public final class PlanEdgesTest {
         CHECK.due("23: 8 is not", y.searchMeasured(0, 8) > 0, true);
         CHECK.due("23: 10 is", y.searchMeasured(4, 10), 0);
         CHECK.due("24: and it is the last time", y.fresh(), 0);
+        oneOfTwentyAnew();
+    }
+
+    /** "a new one takes the place of an old one for the same": no other one goes, whichever of the 20 it is. */
+    private static void oneOfTwentyAnew() {
+        for (int told = 0; told < 20; told++) {
+            Butterflyworks x = new Butterflyworks();
+            for (int i = 0; i < 20; i++) {
+                measureOne(x, i, 1);
+            }
+            CHECK.due("22: number " + told + " anew", measureOne(x, told, 0), 20);
+            CHECK.due("24: all are fresh, number " + told + " anew", x.fresh(), 20);
+            CHECK.due("22: the 21st, number " + told + " anew", x.measure(64, 'b', 0, 7), 20);
+        }
+        for (int told = 1; told < 15; told++) {
+            Butterflyworks x = new Butterflyworks();
+            for (int i = 0; i < 20; i++) {
+                measureOne(x, i, 1);
+            }
+            measureOne(x, told, 0);
+            CHECK.due("23: number 0 is there, number " + told + " anew", x.searchMeasured(0, 2), 1);
+            x.measure(64, 'b', 0, 7);
+            CHECK.due("23: number 0 goes first, number " + told + " anew", x.searchMeasured(0, 2), 2);
+        }
+    }
+
+    /** Of 20 measures, numbered from 0 on, number 0 being that of 2 by d. */
+    private static int measureOne(Butterflyworks x, int number, int cost) {
+        return number < 15 ? x.measure(number + 2, 'd', 0, cost) : x.measure(64, 'c', 1 << number - 14, cost);
     }
 
     /** A stale one is one of the 20, and the one told first goes, stale or not. */

@@ -266,6 +266,9 @@ public final class RefusedTest {
         noPart(64, 'c', 32);
         noPart(60, 'g', 3);
         noPart(60, 'g', 20);
+        refused("13: the old plan stays", OPERATION, x -> x.set(64, 'c', 8), x -> x.set(64, 'b', 0));
+        refused("13: the old plan stays, a second part", OPERATION, x -> x.set(60, 'c', 5), x -> x.set(60, 'c', 20));
+        refused("13: the old plan stays, no such a", ARGUMENT, x -> x.set(60, 'c', 5), x -> x.set(60, 'c', 7));
         refused("13: a part that was dropped", OPERATION, x -> {
             x.set(32, 'b', 0);
             x.drop(32);

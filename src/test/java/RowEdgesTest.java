@@ -477,6 +477,7 @@ public final class RowEdgesTest {
         x.fixed();
         x.wipe();
         CHECK.due("30: the last place of four", x.fixedAt(3, true), 2 + 3 - 6 - 7);
+        CHECK.due("30: its real part", x.fixedAt(3, false), 1 - 4 - 5 + 8);
         x.type(50000);
         Check.outcome(x::fixed);
         CHECK.due("30: a refused one does not count", x.fixedAt(3, true), 2 + 3 - 6 - 7);

@@ -155,6 +155,14 @@ public final class SumsTest {
         lengths.setAccessible(true);
         ((int[]) lengths.get(measures))[1] = 2;
         CHECK.due("42: two for the same", z.isSound(), false);
+        for (int count : new int[] {21, -1}) {
+            Butterflyworks v = new Butterflyworks();
+            Object told = inside(v, "measures");
+            Field counted = told.getClass().getDeclaredField("count");
+            counted.setAccessible(true);
+            counted.setInt(told, count);
+            CHECK.due("42: " + count + " measures", v.isSound(), false);
+        }
         Butterflyworks w = new Butterflyworks();
         w.set(4, 'c', 2);
         Object grounds = inside(w, "grounds");
