@@ -36,7 +36,7 @@ public final class Butterflyworks {
         ring = new Row(LONGEST);
         plans = new Plan[LONGEST + 1];
         plans[1] = new Plan(1, '1', 0, null, null);
-        planner = new Planner(plans[1]);
+        planner = new Planner();
         measures = new Measures();
         transformer = new Transformer();
         straight = new StraightProgram();
@@ -891,8 +891,8 @@ public final class Butterflyworks {
         private int bestA;
         private int bestCost;
 
-        Planner(Plan one) {
-            found[1] = one;
+        Planner() {
+            found[1] = new Plan(1, '1', 0, null, null);
         }
 
         Plan foundPlan(int length) {
@@ -1469,20 +1469,8 @@ public final class Butterflyworks {
         private final int[] cosines = new int[LONGEST];
         private final int[] sines = new int[LONGEST];
 
-        FixedPoint() {
-            fillTable(cosines, sines);
-        }
-
-        int cosineAt(int place) {
-            return place >= 0 && place < cosines.length ? cosines[place] : 0;
-        }
-
-        int sineAt(int place) {
-            return place >= 0 && place < sines.length ? sines[place] : 0;
-        }
-
         /** Each doubling of the parts needs the cosines of half a turn of the one before, which stand in the same row. */
-        private static void fillTable(int[] cosines, int[] sines) {
+        FixedPoint() {
             cosines[0] = ONE;
             cosines[1] = 0;
             cosines[2] = -ONE;
@@ -1501,6 +1489,14 @@ public final class Butterflyworks {
                 cosines[k] = -cosines[k - HALF];
                 sines[k] = -sines[k - HALF];
             }
+        }
+
+        int cosineAt(int place) {
+            return place >= 0 && place < cosines.length ? cosines[place] : 0;
+        }
+
+        int sineAt(int place) {
+            return place >= 0 && place < sines.length ? sines[place] : 0;
         }
 
         /** No whole number's root lies in the middle of two, so that the nearest one is plain. */

@@ -1,8 +1,10 @@
+import com.sun.source.tree.IdentifierTree;
 import com.sun.source.tree.MethodInvocationTree;
 import com.sun.source.tree.MethodTree;
 import com.sun.source.tree.NewClassTree;
 import com.sun.source.tree.Tree;
 import com.sun.source.util.JavacTask;
+import com.sun.source.util.TreePath;
 import com.sun.source.util.TreePathScanner;
 import com.sun.source.util.Trees;
 import java.nio.file.Path;
@@ -14,11 +16,15 @@ import java.util.Map;
 import java.util.Set;
 import javax.lang.model.element.Element;
 import javax.lang.model.element.ElementKind;
+import javax.lang.model.element.Modifier;
 import javax.tools.JavaCompiler;
 import javax.tools.StandardJavaFileManager;
 import javax.tools.ToolProvider;
 
-/** Rules 8 and 11 of LANGUAGE.md: how deep calls go, each method of a recursion counted once. */
+/**
+ * Rules 8 and 11 of LANGUAGE.md: how deep calls go, each method of a recursion counted once. Rule 12: what a
+ * constructor calls, and that it hands out nothing of the object that it makes.
+ */
 public final class CallsTest {
     private static final Check CHECK = new Check("CallsTest");
     private static final int DEEPEST = 8;
@@ -74,20 +80,49 @@ public final class CallsTest {
 
         @Override
         public Void visitMethodInvocation(MethodInvocationTree tree, Void none) {
-            note(trees.getElement(getCurrentPath()));
+            note(trees.getElement(getCurrentPath()), tree.getArguments());
             return super.visitMethodInvocation(tree, none);
         }
 
         @Override
         public Void visitNewClass(NewClassTree tree, Void none) {
-            note(trees.getElement(getCurrentPath()));
+            note(trees.getElement(getCurrentPath()), tree.getArguments());
             return super.visitNewClass(tree, none);
         }
 
-        private void note(Element called) {
-            if (inside != null && called != null) {
-                calls.get(inside).add(called);
+        private void note(Element called, List<? extends Tree> told) {
+            if (inside == null || called == null) {
+                return;
             }
+            calls.get(inside).add(called);
+            if (inside.getKind() == ElementKind.CONSTRUCTOR) {
+                boolean isConstructor = called.getKind() == ElementKind.CONSTRUCTOR;
+                CHECK.isTrue("a constructor calls " + called + ", which is static or a constructor",
+                    isConstructor || called.getModifiers().contains(Modifier.STATIC));
+                for (Tree argument : told) {
+                    new Handed(trees, called).scan(new TreePath(getCurrentPath(), argument), null);
+                }
+            }
+        }
+    }
+
+    /** Looks through what a constructor hands to a call. */
+    private static final class Handed extends TreePathScanner<Void, Void> {
+        private final Trees trees;
+        private final Element called;
+
+        Handed(Trees trees, Element called) {
+            this.trees = trees;
+            this.called = called;
+        }
+
+        @Override
+        public Void visitIdentifier(IdentifierTree tree, Void none) {
+            Element named = trees.getElement(getCurrentPath());
+            boolean isOfObject = named != null && !named.getModifiers().contains(Modifier.STATIC)
+                && (named.getKind() == ElementKind.FIELD || tree.getName().contentEquals("this"));
+            CHECK.isTrue("a constructor keeps " + tree + " from " + called, !isOfObject);
+            return super.visitIdentifier(tree, none);
         }
     }
 
